@@ -1,0 +1,158 @@
+import java.lang.reflect.Constructor;
+import java.lang.reflect.Field;
+import java.lang.reflect.Method;
+import java.lang.reflect.Modifier;
+import java.nio.file.Files;
+import java.nio.file.Path;
+import java.util.Set;
+import java.util.TreeSet;
+import java.util.regex.Matcher;
+import java.util.regex.Pattern;
+
+/** The public face, a new object (promise 1), and what can be seen of LANGUAGE.md in the source. */
+public final class FaceTest {
+    private static final String[] FACE = {
+        "int feed(long)", "int end(int)", "int text()", "int fault()", "int rule(int)", "int pot(int)",
+        "int one(int,int)", "int stir(int,int)", "int befriend(int,int,boolean)", "int spoon(int,int)",
+        "int crown(int)", "int fill(int,int)", "int bowl(int,int,int)", "int ladle(int,int,int)",
+        "int next(int,int)", "int day(int)", "int hungry()", "long chance(int,int,int)", "long lasts(int,int)",
+        "int reign(int,int)", "int raise(int,int)", "int coup(int,int,int)", "int firm(int)", "int see(int)",
+        "int forget(int)", "int histories(int)", "int could(int)", "long blind(int,int,int)", "int fair(int,int)",
+        "int keep(int)", "int back(int)", "int sheet(int,int,int)", "int lay(int,int,int)",
+        "int read(int,int,int,int)", "int torn()", "int count(int)",
+    };
+
+    private static final Due due = new Due();
+
+    public static void main(String[] args) throws Exception {
+        constants();
+        methods();
+        fields();
+        newObject();
+        source(Files.readString(Path.of("src/main/java/LadleKings.java")));
+        due.finish();
+    }
+
+    private static void constants() {
+        due.is("BAD", LadleKings.BAD, -1);
+        due.is("STATE", LadleKings.STATE, -2);
+        due.is("FULL", LadleKings.FULL, -3);
+        due.is("NONE", LadleKings.NONE, -4);
+    }
+
+    private static void methods() {
+        Set<String> want = new TreeSet<>(Set.of(FACE));
+        Set<String> publicNames = new TreeSet<>();
+        Set<String> got = new TreeSet<>();
+        for (Method m : LadleKings.class.getDeclaredMethods()) {
+            if (Modifier.isPublic(m.getModifiers())) {
+                got.add(signature(m));
+                publicNames.add(m.getName());
+            }
+        }
+        due.isTrue("the public methods are " + want + ", not " + got, want.equals(got));
+        for (Class<?> c : LadleKings.class.getDeclaredClasses()) {
+            due.isTrue(c + " is static", Modifier.isStatic(c.getModifiers()));
+            for (Method m : c.getDeclaredMethods()) {
+                due.isTrue(m + " has a name of its own", !publicNames.contains(m.getName()));
+            }
+        }
+        for (Method m : LadleKings.class.getDeclaredMethods()) {
+            boolean isPublic = Modifier.isPublic(m.getModifiers());
+            due.isTrue(m + " is public or private", isPublic || Modifier.isPrivate(m.getModifiers()));
+            due.isTrue(m + " has a name of its own", isPublic || !publicNames.contains(m.getName()));
+        }
+        due.is("classes", LadleKings.class.getDeclaredClasses().length, 11);
+    }
+
+    private static String signature(Method m) {
+        StringBuilder text = new StringBuilder(m.getReturnType() + " " + m.getName() + "(");
+        for (Class<?> type : m.getParameterTypes()) {
+            text.append(text.charAt(text.length() - 1) == '(' ? "" : ",").append(type);
+        }
+        return text.append(")").toString();
+    }
+
+    private static void fields() {
+        due.isTrue("the class is public", Modifier.isPublic(LadleKings.class.getModifiers()));
+        due.isTrue("the class is final", Modifier.isFinal(LadleKings.class.getModifiers()));
+        Constructor<?>[] made = LadleKings.class.getDeclaredConstructors();
+        due.is("constructors", made.length, 1);
+        due.is("parameters", made[0].getParameterCount(), 0);
+        Set<String> publics = new TreeSet<>();
+        for (Field f : LadleKings.class.getDeclaredFields()) {
+            if (!Modifier.isPrivate(f.getModifiers())) {
+                publics.add(f.getName());
+            }
+            due.isTrue(f + ": a static field is final",
+                !Modifier.isStatic(f.getModifiers()) || Modifier.isFinal(f.getModifiers()));
+        }
+        due.isTrue("public fields: " + publics, publics.equals(Set.of("BAD", "STATE", "FULL", "NONE")));
+    }
+
+    private static void newObject() {
+        LadleKings x = new LadleKings();
+        due.is("rule(0)", x.rule(0), 4);
+        for (int what = 1; what <= 4; what++) {
+            due.is("rule(" + what + ")", x.rule(what), 0);
+        }
+        for (int i = 0; i < 4; i++) {
+            due.is("pot", x.pot(i), 0);
+            due.is("FRIENDS", x.one(i, 0), 0);
+            due.is("SPOONS", x.one(i, 1), 1);
+            due.is("NEED", x.one(i, 2), 0);
+            due.is("EATEN", x.one(i, 3), 0);
+        }
+        due.is("no fifth SEAT", x.one(4, 0), -1);
+        due.is("no STIR", x.stir(0, 0), -1);
+        for (int k = 0; k < 4; k++) {
+            due.is("SHEET " + k + " is nothing", x.lay(k, 0, 0), -11);
+        }
+        due.is("count(0)", x.count(0), 0);
+        due.is("count(1)", x.count(1), 0);
+        due.is("count(2)", x.count(2), 0);
+        due.is("count(3)", x.count(3), -4);
+        due.is("count(4)", x.count(4), 0);
+        due.is("fault()", x.fault(), 0);
+        due.is("torn()", x.torn(), 0);
+        due.is("back(0)", x.back(0), -2);
+        due.is("back(1)", x.back(1), -2);
+    }
+
+    private static void source(String code) {
+        String bare = code.replaceAll("(?s)/\\*.*?\\*/", "").replaceAll("//[^\n]*", "").replaceAll("\"[^\"]*\"", "\"\"");
+        String[] forbidden = {"throw", "throws", "try", "catch", "synchronized", "assert", "package", "native",
+            "volatile", "transient", "->", "::", "Exact", "random", "System.out", "@"};
+        for (String word : forbidden) {
+            boolean isWord = Character.isLetter(word.charAt(0)) && !word.contains(".") && !word.equals("Exact");
+            Pattern p = Pattern.compile(isWord ? "\\b" + word + "\\b" : Pattern.quote(word));
+            due.isTrue("no " + word + " in the source", !p.matcher(bare).find());
+        }
+        due.isTrue("one import alone", bare.replace("import java.util.Arrays;", "").indexOf("import") < 0);
+        for (int i = 0; i < code.length(); i++) {
+            if (code.charAt(i) > 126) {
+                due.is("a sign beyond 126 at " + i, code.charAt(i), 126);
+            }
+        }
+        shortMethods(bare.split("\n"));
+    }
+
+    /** Some sixty lines a method, seven parameters. */
+    private static void shortMethods(String[] lines) {
+        Pattern head = Pattern.compile("^( +)(?!return|else|if|for|while|switch)[a-z][\\w\\[\\] ]* (\\w+)\\((.*)\\) \\{$");
+        int methods = 0;
+        for (int i = 0; i < lines.length; i++) {
+            Matcher m = head.matcher(lines[i]);
+            if (m.find()) {
+                methods++;
+                int last = i;
+                while (last < lines.length && !lines[last].equals(m.group(1) + "}")) {
+                    last++;
+                }
+                due.isTrue(m.group(2) + " is short", last - i <= 60);
+                due.isTrue(m.group(2) + " has few parameters", m.group(3).split(",").length <= 7);
+            }
+        }
+        due.isTrue("methods are found: " + methods, methods > 80);
+    }
+}
