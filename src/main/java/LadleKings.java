@@ -389,13 +389,13 @@ public final class LadleKings {
         int tear = 0;
         int readable = 0;
         // A DAY that is refused undoes those ahead of it, so all are looked at before one goes.
-        while (readable < n && tear == 0) {
-            tear = row.faultAt(lane, f + readable);
+        for (int i = 0; i < n && tear == 0; i++) {
+            tear = row.faultAt(lane, f + i);
             if (tear == 0) {
-                if (!canPass(row.cells[f + readable], readable)) {
-                    return -20 - readable;
+                if (!canPass(row.cells[f + i], i)) {
+                    return -20 - i;
                 }
-                readable++;
+                readable = i + 1;
             }
         }
         for (int i = 0; i < readable; i++) {

@@ -7,6 +7,7 @@ public final class CoupTest {
         twoAtOnePot();
         kingHimselfRises();
         leastBits();
+        lowestIsLeftOut();
         halfIsNotEnough();
         none();
         wrongNumbers();
@@ -26,6 +27,7 @@ public final class CoupTest {
         due.is("firm are both", x.firm(1), 3);
         due.isTrue("asking changes nothing", before.equals(Due.stateOf(x)));
         x.spoon(1, 1);
+        due.is("firm alone", due.told("seats 2;pot 0 5;turn 2;spoons 1 2;").firm(0), 2);
         due.is("half is not more than half", x.coup(0, 0, 0), -4);
         due.is("firm are both", x.firm(0), 3);
     }
@@ -73,6 +75,18 @@ public final class CoupTest {
         x.spoon(1, 2);
         due.is("1 and 2 are enough for 2", x.coup(0, 0, 0), 2);
         due.is("their bits", x.coup(0, 0, 1), 6);
+    }
+
+    /** Against 1, were 0 KING, all others rise: 0 leads, so he stays; against 3, were 2 KING, 0 can be left out. */
+    private static void lowestIsLeftOut() {
+        LadleKings x = due.told("seats 4;pot 1 2 3 4;turn 4;spoons 2 9;");
+        due.is("against 1: c", x.coup(1, 0, 0), 0);
+        due.is("against 1: bits", x.coup(1, 0, 1), 5);
+        x.spoon(3, 9);
+        due.is("against 1: 0 with 3 are not enough without 2", x.coup(1, 0, 1), 13);
+        LadleKings y = due.told("seats 4;pot 1 2 3 4;turn 4;spoons 2 9;");
+        due.is("against 3: c", y.coup(3, 0, 0), 2);
+        due.is("against 3: 2 alone", y.coup(3, 0, 1), 4);
     }
 
     private static void halfIsNotEnough() {

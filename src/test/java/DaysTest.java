@@ -80,6 +80,10 @@ public final class DaysTest {
 
     /** Promises 14, 15, 16: behind turn 1 THE POT is 4 (with the BONE), 1, 2, 3. */
     private static void whoGetsWhat() {
+        due.is("next alone", due.told(TABLE).next(2, 0), 3);
+        due.is("ladle alone", due.told(TABLE).ladle(2, 3, 0), 0);
+        due.is("bowl alone", due.told(TABLE).bowl(2, 3, 0), 4);
+        due.is("day alone", due.told("seats 3;king 2;turn 1;").day(0), 1);
         LadleKings x = due.told(TABLE);
         int[][] places = {{3, 0, 2, 1}, {2, 3, 0, 1}, {1, 2, 3, 0}, {0, 1, 2, 3}};
         int[] pot = {4, 1, 2, 3};

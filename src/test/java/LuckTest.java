@@ -11,6 +11,7 @@ public final class LuckTest {
         reigns();
         raises();
         raisesOfTenDays();
+        rowsAreWalked();
         noStirs();
         blinds();
         due.finish();
@@ -139,6 +140,52 @@ public final class LuckTest {
         for (int i = 1; i <= days; i++) {
             boolean isKing = x.day(0) == p;
             due.isTrue("KING behind DAY " + i, isKing == (i == days));
+        }
+    }
+
+    /** The rows that are told do what is said of them when their DAYS go. */
+    private static void rowsAreWalked() {
+        String[] texts = {
+            "seats 4;bone 3;friend 0 2;friend 1 0;friend 3 1;flip;swap 0 2;",
+            "seats 7;bone 2;friend 0 3;turn 1;",
+            "seats 7;bone 5;king 4;friend 4 5;swap 0 6;turn 2;",
+            "seats 6;bone 1;lift 5;flip;",
+            "seats 5;bone 4;king 3;lift 2;turn 3;swap 1 4;",
+        };
+        for (String text : texts) {
+            int seats = text.charAt(6) - '0';
+            for (int p = 0; p < seats; p++) {
+                walkToCrown(text, p);
+            }
+            walkOfReign(text);
+        }
+    }
+
+    private static void walkToCrown(String text, int p) {
+        LadleKings x = due.told(text);
+        int days = x.raise(p, 0);
+        int[] row = new int[10];
+        for (int i = 0; i < 10; i++) {
+            row[i] = x.raise(p, 10 + i);
+            due.isTrue("STIR of DAY " + i, (row[i] >= 0) == (i < days));
+        }
+        for (int i = 0; i < days; i++) {
+            due.isTrue("no earlier", x.rule(2) != p);
+            x.day(row[i]);
+        }
+        due.isTrue(text + " makes " + p + " KING", days == -4 || x.rule(2) == p);
+    }
+
+    private static void walkOfReign(String text) {
+        LadleKings x = due.told(text);
+        int king = x.rule(2);
+        int days = x.reign(10, 0);
+        int[] row = new int[10];
+        for (int i = 0; i < 10; i++) {
+            row[i] = x.reign(10, 10 + i);
+        }
+        for (int i = 0; i < days; i++) {
+            due.is(text + " keeps him", x.day(row[i]), king);
         }
     }
 

@@ -10,7 +10,9 @@ public final class PastTest {
         historiesOfTwo();
         manyHistories();
         askedFromNow();
+        historiesByDays();
         fairDays();
+        fairByDays();
         fairWrong();
         due.finish();
     }
@@ -120,6 +122,79 @@ public final class PastTest {
         due.is("could", x.could(0), 1);
         x.crown(1);
         due.is("0 gets PLACE 0 now", x.histories(10), 1);
+    }
+
+    private static final String FOUR = "seats 4;pot 1 2 3 4;bone 3;friend 0 2;friend 1 0;friend 3 1;"
+        + "turn 1;flip;swap 0 2;lift 3;";
+
+    /** Three DAYS by each of 64 rows, as they go, tell which KINGS are seen by which rows. */
+    private static void historiesByDays() {
+        for (int seen = 0; seen < 64; seen++) {
+            LadleKings x = due.told(FOUR);
+            int many = 0;
+            int first = -1;
+            int[] could = new int[3];
+            for (int row = 0; row < 64; row++) {
+                if (kingsOf(row) == seen) {
+                    many++;
+                    first = first < 0 ? row : first;
+                    for (int i = 0; i < 3; i++) {
+                        could[i] |= 1 << stirOf(row, i);
+                    }
+                }
+            }
+            for (int i = 0; i < 3; i++) {
+                x.see(stirOf(seen, i));
+            }
+            due.is("histories of " + seen, x.histories(0), many);
+            for (int i = 0; i < 3; i++) {
+                due.is("first of " + seen, x.histories(10 + i), first < 0 ? -4 : stirOf(first, i));
+                due.is("could of " + seen, x.could(i), could[i]);
+            }
+        }
+    }
+
+    /** Three figures of two bits, the first one highest. */
+    private static int stirOf(int row, int i) {
+        return (row >> (4 - 2 * i)) & 3;
+    }
+
+    private static int kingsOf(int row) {
+        LadleKings x = new LadleKings();
+        Due.tell(x, FOUR);
+        int kings = 0;
+        for (int i = 0; i < 3; i++) {
+            kings = 4 * kings + x.day(stirOf(row, i));
+        }
+        return kings;
+    }
+
+    /** What was EATEN behind three DAYS by each of 64 rows tells which is most alike. */
+    private static void fairByDays() {
+        int best = 1000;
+        int first = -1;
+        for (int row = 0; row < 64; row++) {
+            LadleKings x = new LadleKings();
+            Due.tell(x, FOUR);
+            int most = 0;
+            int least = 1000;
+            for (int i = 0; i < 3; i++) {
+                x.day(stirOf(row, i));
+            }
+            for (int p = 0; p < 4; p++) {
+                most = Math.max(most, x.one(p, 3));
+                least = Math.min(least, x.one(p, 3));
+            }
+            if (most - least < best) {
+                best = most - least;
+                first = row;
+            }
+        }
+        LadleKings x = due.told(FOUR);
+        due.is("fair by DAYS", x.fair(3, 0), best);
+        for (int i = 0; i < 3; i++) {
+            due.is("fair by DAYS, DAY " + i, due.told(FOUR).fair(3, 10 + i), stirOf(first, i));
+        }
     }
 
     /** Promise 30. */

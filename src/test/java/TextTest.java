@@ -85,6 +85,8 @@ public final class TextTest {
         taken("spoons 0 2;spoons 0 3;need 0 1;need 0 1;", 4);
         taken("friend 0 1;friend 1 0;friend 0 2;", 3);
         taken("swap 0 1;swap 1 0;", 2);
+        taken("bone 0;king 0;pot 0 0;friend 0 1;spoons 0 1;need 0 0;swap 1 0;", 7);
+        taken("seats 2;king 1;lift 1;swap 0 1;friend 1 0;", 5);
     }
 
     private static void faulty(String text, int place, int fault) {
@@ -111,6 +113,10 @@ public final class TextTest {
         faulty("flip;;", 5, 2);
         faulty("7;", 0, 2);
         faulty("flips;", 0, 2);
+        faulty("xlip;", 0, 2);
+        faulty("flix;", 0, 2);
+        faulty("flipz;", 0, 2);
+        faulty("zflip;", 0, 2);
         faulty("fli;", 0, 2);
         faulty("flipflip;", 0, 2);
         faulty("flip flip;", 5, 2);
@@ -124,6 +130,14 @@ public final class TextTest {
         faulty("pot 1 2", 7, 2);
         faulty("pot 1 flip;", 6, 2);
         faulty("pot 0 0 0 0 0 0 0 flip;", 18, 2);
+        faulty("bone 0 0;", 7, 2);
+        faulty("king 0 0;", 7, 2);
+        faulty("spoons 0 1 0;", 11, 2);
+        faulty("need 0 1 0;", 9, 2);
+        faulty("turn 1 0;", 7, 2);
+        faulty("flip 0;", 5, 2);
+        faulty("swap 0 1 0;", 9, 2);
+        faulty("lift 1 0;", 7, 2);
         faulty("friend 0;", 8, 2);
         faulty("friend 0 1 2;", 11, 2);
         faulty("spoons 0;", 8, 2);
@@ -134,7 +148,9 @@ public final class TextTest {
         faulty("seats 1;", 6, 3);
         faulty("seats 8;", 6, 3);
         faulty("seats 10;", 6, 3);
+        faulty("pot 10;", 4, 3);
         faulty("pot 0 10;", 6, 3);
+        faulty("pot 0 0 0 0 0 0 0 10;", 18, 3);
         faulty("bone 7;", 5, 3);
         faulty("king 7;", 5, 3);
         faulty("friend 7 0;", 7, 3);
@@ -160,6 +176,9 @@ public final class TextTest {
         faulty("swap 2 2;", 7, 4);
         faulty("pot 0 0 0 0 0 0 0 0;", 18, 5);
         faulty("flip;turn 1;swap 0 1;lift 1;flip;lift,", 33, 5);
+        faulty("flip;flip;flip;flip;flip;turn 9;", 25, 5);
+        faulty("flip;flip;flip;flip;flip;swap 0 0;", 25, 5);
+        faulty("flip;flip;flip;flip;flip;flip", 25, 5);
         faulty("pot 1 2 3 4 5;", 14, 6);
         faulty("seats 2;pot 1 2 3;", 18, 6);
         faulty("bone 4;", 7, 6);
@@ -209,6 +228,14 @@ public final class TextTest {
         due.is("IMAGES", x.count(1), 0);
         due.is("SEEN", x.count(0), 0);
         due.is("SEATS", x.rule(0), 4);
+        due.is("seven SEATS", Due.tell(x, "seats 7;king 6;spoons 6 3;need 6 2;pot 1 1 1 1 1 1 1;friend 6 0;flip;"), 7);
+        x.see(6);
+        x.day(0);
+        due.is("three SEATS", Due.tell(x, "seats 3;king 2;"), 2);
+        due.is("no STIRS", x.rule(1), 0);
+        due.is("four SEATS, none told", Due.tell(x, ""), 0);
+        due.is("SEATS", x.rule(0), 4);
+        due.is("SEEN", x.count(0), 0);
         for (int what = 1; what <= 4; what++) {
             due.is("rule " + what, x.rule(what), 0);
         }
