@@ -1,4 +1,5 @@
 import java.nio.charset.StandardCharsets;
+import java.util.function.IntToLongFunction;
 
 /** What the tests share: answers that are due, texts that are fed. */
 final class Due {
@@ -15,6 +16,16 @@ final class Due {
 
     void isTrue(String claim, boolean holds) {
         is(claim, holds ? 1 : 0, 1);
+    }
+
+    /** Numbers from low to high are taken; one beyond either bound, and those far off, are refused. */
+    void bounds(String call, IntToLongFunction answer, int low, long wantLow, int high, long wantHigh, long refused) {
+        is(call + " at " + low, answer.applyAsLong(low), wantLow);
+        is(call + " at " + high, answer.applyAsLong(high), wantHigh);
+        int[] beyond = {low - 1, high + 1, Integer.MIN_VALUE, Integer.MAX_VALUE};
+        for (int v : beyond) {
+            is(call + " at " + v, answer.applyAsLong(v), refused);
+        }
     }
 
     /** Ends the test: exit code 1 if an answer was wrong. */
