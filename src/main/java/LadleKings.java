@@ -296,11 +296,7 @@ public final class LadleKings {
         if (!isRowQuestion(what, MOST_SEEN)) {
             return BAD;
         }
-        int many = past.howMany();
-        if (what == 0) {
-            return many;
-        }
-        return many == 0 ? NONE : ofRow(past.firstRow(), state.seenDays, what - ROW);
+        return what == 0 ? past.howMany() : past.firstStirOfDay(what - ROW);
     }
 
     public int could(int i) {
@@ -1243,113 +1239,58 @@ public final class LadleKings {
         }
     }
 
-    /** HISTORIES by the KINGS that were SEEN; as those are known, the PLACE of the BONE alone is open. */
+    /** HISTORIES. Who is KING next tells to which PLACE the BONE was brought, so each DAY stands by itself. */
     private static final class Past {
         private final Kitchen kitchen;
-        /** By DAY and PLACE of the BONE before it: in how many ways the DAYS from it on can have gone. */
-        private final int[] ways = new int[(MOST_SEEN + 1) * MOST_SEATS];
-        private final int[] row = new int[MOST_SEEN];
+        /** By DAY: bits of the STIRS by which the one who was SEEN is KING behind it. */
+        private final int[] fitting = new int[MOST_SEEN];
 
         Past(Kitchen itsKitchen) {
             kitchen = itsKitchen;
         }
 
         int howMany() {
-            kitchen.serveAllKings();
-            int days = kitchen.state.seenDays;
-            for (int bone = 0; bone < kitchen.rules.seats; bone++) {
-                ways[days * MOST_SEATS + bone] = 1;
-            }
-            for (int i = days - 1; i >= 0; i--) {
-                for (int bone = 0; bone < kitchen.rules.seats; bone++) {
-                    ways[i * MOST_SEATS + bone] = waysFrom(i, bone);
-                }
-            }
-            return ways[kitchen.state.bone];
-        }
-
-        private int waysFrom(int i, int bone) {
-            int sum = 0;
-            for (int r = 0; r < kitchen.rules.stirs; r++) {
-                sum += waysBy(i, bone, r);
-            }
-            return sum;
-        }
-
-        private int waysBy(int i, int bone, int r) {
-            int place = kitchen.rules.placeAfter(r, bone);
-            boolean isSo = kitchen.holderOf(kingBefore(i), place) == kitchen.state.seen[i];
-            return isSo ? ways[(i + 1) * MOST_SEATS + place] : 0;
-        }
-
-        private int kingBefore(int i) {
-            return i == 0 ? kitchen.state.king : kitchen.state.seen[i - 1];
-        }
-
-        /** To be asked behind howMany(), when there is one. */
-        int[] firstRow() {
+            int many = 1;
+            int king = kitchen.state.king;
             int bone = kitchen.state.bone;
             for (int i = 0; i < kitchen.state.seenDays; i++) {
-                int r = firstStir(i, bone);
-                row[i] = r;
-                bone = kitchen.rules.hasStir(r) ? kitchen.rules.placeAfter(r, bone) : bone;
+                int crowned = kitchen.state.seen[i];
+                kitchen.serve(king);
+                int place = kitchen.placeOf(king, crowned);
+                fitting[i] = stirsBringing(bone, place);
+                many *= Integer.bitCount(fitting[i]);
+                king = crowned;
+                bone = place;
             }
-            return row;
+            return many;
         }
 
-        private int firstStir(int i, int bone) {
-            for (int r = 0; r < kitchen.rules.stirs; r++) {
-                if (waysBy(i, bone, r) > 0) {
-                    return r;
-                }
-            }
-            return NONE;
-        }
-
-        /** Bits of the STIRS that DAY i can have had. */
-        int stirsOfDay(int i) {
-            howMany();
-            int bones = 1 << kitchen.state.bone;
-            for (int j = 0; j < i; j++) {
-                bones = bonesAfter(j, bones);
-            }
-            int stirs = 0;
-            for (int bone = 0; bone < kitchen.rules.seats; bone++) {
-                if (((bones >> bone) & 1) != 0) {
-                    stirs |= stirsFrom(i, bone);
-                }
-            }
-            return stirs;
-        }
-
-        private int stirsFrom(int i, int bone) {
+        /** Bits of the STIRS that bring a LAYER from one PLACE to another. */
+        private int stirsBringing(int from, int to) {
             int bits = 0;
             for (int r = 0; r < kitchen.rules.stirs; r++) {
-                if (waysBy(i, bone, r) > 0) {
+                if (kitchen.rules.placeAfter(r, from) == to) {
                     bits |= 1 << r;
                 }
             }
             return bits;
         }
 
-        private int bonesAfter(int i, int bones) {
-            int after = 0;
-            for (int bone = 0; bone < kitchen.rules.seats; bone++) {
-                if (((bones >> bone) & 1) != 0) {
-                    after |= placesOf(stirsFrom(i, bone), bone);
-                }
-            }
-            return after;
+        /** Bits of the STIRS that DAY i can have had; none, if one of the DAYS can have had none. */
+        int stirsOfDay(int i) {
+            boolean isThere = i >= 0 && i < kitchen.state.seenDays;
+            return isThere && howMany() > 0 ? fitting[i] : 0;
         }
 
-        private int placesOf(int stirs, int bone) {
-            int bits = 0;
+        /** Of the first HISTORY; NONE, if there is none, or not so many DAYS. */
+        int firstStirOfDay(int i) {
+            int could = stirsOfDay(i);
             for (int r = 0; r < kitchen.rules.stirs; r++) {
-                if (((stirs >> r) & 1) != 0) {
-                    bits |= 1 << kitchen.rules.placeAfter(r, bone);
+                if (((could >> r) & 1) != 0) {
+                    return r;
                 }
             }
-            return bits;
+            return NONE;
         }
     }
 

@@ -10,7 +10,8 @@ public final class PastTest {
         historiesOfTwo();
         manyHistories();
         askedFromNow();
-        historiesByDays();
+        historiesByDays(FOUR);
+        historiesByDays(UNLIKE);
         fairDays();
         fairByDays();
         fairWrong();
@@ -127,15 +128,18 @@ public final class PastTest {
     private static final String FOUR = "seats 4;pot 1 2 3 4;bone 3;friend 0 2;friend 1 0;friend 3 1;"
         + "turn 1;flip;swap 0 2;lift 3;";
 
+    /** Each STIR brings the BONE to another PLACE: so there is one HISTORY at most. */
+    private static final String UNLIKE = "seats 4;bone 2;king 1;friend 2 3;friend 1 3;turn 1;turn 4;turn 2;turn 3;";
+
     /** Three DAYS by each of 64 rows, as they go, tell which KINGS are seen by which rows. */
-    private static void historiesByDays() {
+    private static void historiesByDays(String text) {
         for (int seen = 0; seen < 64; seen++) {
-            LadleKings x = due.told(FOUR);
+            LadleKings x = due.told(text);
             int many = 0;
             int first = -1;
             int[] could = new int[3];
             for (int row = 0; row < 64; row++) {
-                if (kingsOf(row) == seen) {
+                if (kingsOf(text, row) == seen) {
                     many++;
                     first = first < 0 ? row : first;
                     for (int i = 0; i < 3; i++) {
@@ -159,9 +163,9 @@ public final class PastTest {
         return (row >> (4 - 2 * i)) & 3;
     }
 
-    private static int kingsOf(int row) {
+    private static int kingsOf(String text, int row) {
         LadleKings x = new LadleKings();
-        Due.tell(x, FOUR);
+        Due.tell(x, text);
         int kings = 0;
         for (int i = 0; i < 3; i++) {
             kings = 4 * kings + x.day(stirOf(row, i));
