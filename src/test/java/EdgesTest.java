@@ -506,6 +506,13 @@ public final class EdgesTest {
         six.see(1);
         due.is("none", six.histories(0), 0);
         rowQuestions("histories, none", what -> six.histories(what), 5, -4);
+        for (int n = 5; n >= 0; n--) {
+            six.forget(n);
+            due.is("one HISTORY of fewer DAYS", six.histories(0), 1);
+            due.is("a DAY that was forgotten", six.histories(10 + n), -4);
+            due.is("a DAY that was forgotten", six.could(n), -1);
+            due.is("the last that is left", six.histories(10 + Math.max(0, n - 1)), n > 0 ? 0 : -4);
+        }
         rowQuestions("histories, no STIRS, nothing SEEN", what -> new LadleKings().histories(what), 5, -4);
     }
 
