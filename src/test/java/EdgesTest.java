@@ -396,6 +396,14 @@ public final class EdgesTest {
             String text = "seats " + s + ";king " + (s - 1) + ";bone " + (s - 1) + ";turn 1;";
             due.bounds("raise p", p -> due.told(text).raise(p, 0), 0, 1, s - 1, 0, -1);
         }
+        for (int king = 0; king < 7; king++) {
+            for (int bone = 0; bone < 7; bone++) {
+                LadleKings x = due.told("seats 7;king " + king + ";bone " + bone + ";turn 1;flip;");
+                for (int p = 0; p < 7; p++) {
+                    due.isTrue("no DAY for THE KING alone", (x.raise(p, 0) == 0) == (p == king));
+                }
+            }
+        }
         LadleKings ten = due.told("seats 6;bone 0;friend 5 4;friend 2 0;friend 5 3;flip;");
         due.is("ten DAYS", ten.raise(5, 0), 10);
         rowQuestions("raise by ten", what -> ten.raise(5, what), 9, 0);
@@ -562,7 +570,32 @@ public final class EdgesTest {
             }
             due.is("DAY 4", x.fair(n, 14), -1);
         }
+        for (int seats = 2; seats <= 7; seats++) {
+            for (int king = 0; king < seats; king++) {
+                // There is one STIR alone: so the DAYS themselves tell what all get.
+                LadleKings y = due.told("seats " + seats + ";pot 9 1;bone 1;king " + king + ";turn 1;");
+                for (int n = 1; n <= 4; n++) {
+                    y.keep(0);
+                    int want = spreadBehind(y, seats, n);
+                    y.back(0);
+                    due.is("fair " + n + " of " + seats, y.fair(n, 0), want);
+                }
+            }
+        }
         LadleKings last = behindDays("seats 2;pot 0 9;bone 1;turn 2;turn 4;", 999);
         due.is("from now on, whatever has gone", last.fair(4, 0), 36);
+    }
+
+    private static int spreadBehind(LadleKings x, int seats, int days) {
+        for (int i = 0; i < days; i++) {
+            x.day(0);
+        }
+        int most = x.one(0, 3);
+        int least = most;
+        for (int p = 1; p < seats; p++) {
+            most = Math.max(most, x.one(p, 3));
+            least = Math.min(least, x.one(p, 3));
+        }
+        return most - least;
     }
 }
