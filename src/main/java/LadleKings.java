@@ -1297,11 +1297,15 @@ public final class LadleKings {
     /** The first row of STIRS by which what all get is most alike. */
     private static final class FairDays {
         private static final int LEVELS = MOST_FAIR_DAYS + 1;
+        /** Five STIRS for each of four DAYS. */
+        private static final int MOST_ROWS = 625;
 
         private final Kitchen kitchen;
-        /** By DAY and PLACE, by DAY and SEAT: as it is before that DAY. */
+        /** As it is before each DAY of the row: by DAY and PLACE, by DAY and SEAT, by DAY. */
         private final int[] pots = new int[LEVELS * MOST_SEATS];
         private final int[] sums = new int[LEVELS * MOST_SEATS];
+        private final int[] kings = new int[LEVELS];
+        private final int[] bones = new int[LEVELS];
         private final int[] row = new int[MOST_FAIR_DAYS];
         final int[] bestRow = new int[MOST_FAIR_DAYS];
         private int days = 0;
@@ -1312,29 +1316,33 @@ public final class LadleKings {
         }
 
         int leastSpread(int n) {
+            begin(Math.min(n, MOST_FAIR_DAYS));
+            int changed = 0;
+            for (int i = 0; i < MOST_ROWS && changed != NONE; i++) {
+                // The DAYS ahead of the one that changed are as they were.
+                for (int level = changed; level < days; level++) {
+                    goOn(level);
+                }
+                weigh();
+                changed = nextRow();
+            }
+            return least;
+        }
+
+        private void begin(int n) {
             kitchen.serveAllKings();
             days = n;
             least = NONE;
             System.arraycopy(kitchen.state.pieces, 0, pots, 0, kitchen.rules.seats);
             Arrays.fill(sums, 0);
-            search(0, kitchen.state.king, kitchen.state.bone);
-            return least;
+            Arrays.fill(row, 0);
+            kings[0] = kitchen.state.king;
+            bones[0] = kitchen.state.bone;
         }
 
-        private void search(int level, int king, int bone) {
-            if (level >= days || level >= MOST_FAIR_DAYS) {
-                weigh();
-                return;
-            }
-            for (int r = 0; r < kitchen.rules.stirs; r++) {
-                row[level] = r;
-                goOn(level, king, r);
-                int place = kitchen.rules.placeAfter(r, bone);
-                search(level + 1, kitchen.holderOf(king, place), place);
-            }
-        }
-
-        private void goOn(int level, int king, int r) {
+        private void goOn(int level) {
+            int r = row[level];
+            int king = kings[level];
             int from = level * MOST_SEATS;
             int to = from + MOST_SEATS;
             for (int i = 0; i < kitchen.rules.seats; i++) {
@@ -1343,6 +1351,8 @@ public final class LadleKings {
             for (int p = 0; p < kitchen.rules.seats; p++) {
                 sums[to + p] = sums[from + p] + pots[to + kitchen.placeOf(king, p)];
             }
+            bones[level + 1] = kitchen.rules.placeAfter(r, bones[level]);
+            kings[level + 1] = kitchen.holderOf(king, bones[level + 1]);
         }
 
         private void weigh() {
@@ -1356,6 +1366,18 @@ public final class LadleKings {
                 least = greatest - smallest;
                 System.arraycopy(row, 0, bestRow, 0, days);
             }
+        }
+
+        /** The first DAY at which the next row is another one; NONE behind the last row. */
+        private int nextRow() {
+            for (int i = days - 1; i >= 0; i--) {
+                if (row[i] + 1 < kitchen.rules.stirs) {
+                    row[i]++;
+                    return i;
+                }
+                row[i] = 0;
+            }
+            return NONE;
         }
     }
 

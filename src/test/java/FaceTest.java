@@ -2,14 +2,10 @@ import java.lang.reflect.Constructor;
 import java.lang.reflect.Field;
 import java.lang.reflect.Method;
 import java.lang.reflect.Modifier;
-import java.nio.file.Files;
-import java.nio.file.Path;
 import java.util.Set;
 import java.util.TreeSet;
-import java.util.regex.Matcher;
-import java.util.regex.Pattern;
 
-/** The public face, a new object (promise 1), and what can be seen of LANGUAGE.md in the source. */
+/** The public face (LANGUAGE.md, rule 1) and a new object (promise 1). */
 public final class FaceTest {
     private static final String[] FACE = {
         "int feed(long)", "int end(int)", "int text()", "int fault()", "int rule(int)", "int pot(int)",
@@ -24,12 +20,11 @@ public final class FaceTest {
 
     private static final Due due = new Due();
 
-    public static void main(String[] args) throws Exception {
+    public static void main(String[] args) {
         constants();
         methods();
         fields();
         newObject();
-        source(Files.readString(Path.of("src/main/java/LadleKings.java")));
         due.finish();
     }
 
@@ -117,42 +112,5 @@ public final class FaceTest {
         due.is("torn()", x.torn(), 0);
         due.is("back(0)", x.back(0), -2);
         due.is("back(1)", x.back(1), -2);
-    }
-
-    private static void source(String code) {
-        String bare = code.replaceAll("(?s)/\\*.*?\\*/", "").replaceAll("//[^\n]*", "").replaceAll("\"[^\"]*\"", "\"\"");
-        String[] forbidden = {"throw", "throws", "try", "catch", "synchronized", "assert", "package", "native",
-            "volatile", "transient", "->", "::", "Exact", "random", "System.out", "@"};
-        for (String word : forbidden) {
-            boolean isWord = Character.isLetter(word.charAt(0)) && !word.contains(".") && !word.equals("Exact");
-            Pattern p = Pattern.compile(isWord ? "\\b" + word + "\\b" : Pattern.quote(word));
-            due.isTrue("no " + word + " in the source", !p.matcher(bare).find());
-        }
-        due.isTrue("one import alone", bare.replace("import java.util.Arrays;", "").indexOf("import") < 0);
-        for (int i = 0; i < code.length(); i++) {
-            if (code.charAt(i) > 126) {
-                due.is("a sign beyond 126 at " + i, code.charAt(i), 126);
-            }
-        }
-        shortMethods(bare.split("\n"));
-    }
-
-    /** Some sixty lines a method, seven parameters. */
-    private static void shortMethods(String[] lines) {
-        Pattern head = Pattern.compile("^( +)(?!return|else|if|for|while|switch)[a-z][\\w\\[\\] ]* (\\w+)\\((.*)\\) \\{$");
-        int methods = 0;
-        for (int i = 0; i < lines.length; i++) {
-            Matcher m = head.matcher(lines[i]);
-            if (m.find()) {
-                methods++;
-                int last = i;
-                while (last < lines.length && !lines[last].equals(m.group(1) + "}")) {
-                    last++;
-                }
-                due.isTrue(m.group(2) + " is short", last - i <= 60);
-                due.isTrue(m.group(2) + " has few parameters", m.group(3).split(",").length <= 7);
-            }
-        }
-        due.isTrue("methods are found: " + methods, methods > 80);
     }
 }
