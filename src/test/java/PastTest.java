@@ -14,6 +14,8 @@ public final class PastTest {
         historiesByDays(UNLIKE);
         fairDays();
         fairByDays();
+        fairLastRow();
+        fairFromTheKingThatIs();
         fairWrong();
         due.finish();
     }
@@ -227,6 +229,53 @@ public final class PastTest {
         due.is("alike", y.fair(4, 0), 0);
         x.day(0);
         due.is("what was EATEN does not count", x.fair(1, 0), 5);
+    }
+
+    /** By lifts alone each one gets 2, 5, 7 and 8; of all 625 rows that is the last. */
+    private static void fairLastRow() {
+        LadleKings x = due.told("seats 4;pot 2 8 7 5;bone 2;king 3;swap 2 1;swap 2 1;swap 2 1;swap 2 1;lift 3;");
+        for (int again = 0; again < 2; again++) {
+            due.is("the last row", x.fair(4, 0), 0);
+            for (int i = 0; i < 4; i++) {
+                due.is("the last row, DAY " + i, x.fair(4, 10 + i), 4);
+            }
+        }
+    }
+
+    /** Whoever is KING when it is asked begins; what goes by day() is what fair() foretells. */
+    private static void fairFromTheKingThatIs() {
+        LadleKings x = due.told("seats 3;pot 1 4 9;bone 0;friend 0 1;turn 1;");
+        int[] twoDays = {11, 11, 16};
+        int[] fourDays = {14, 2, 19};
+        for (int k = 0; k < 3; k++) {
+            x.crown(k);
+            due.is("KING " + k + ", two DAYS", x.fair(2, 0), twoDays[k]);
+            due.is("KING " + k + ", four DAYS", x.fair(4, 0), fourDays[k]);
+            for (int n = 1; n <= 4; n++) {
+                due.is("KING " + k + ", DAYS " + n, x.fair(n, 0), spreadOfDays(x, n));
+            }
+        }
+    }
+
+    /** Where there is one STIR alone, the DAYS go and are taken back. */
+    private static int spreadOfDays(LadleKings x, int n) {
+        x.keep(1);
+        int seats = x.rule(0);
+        int greatest = Integer.MIN_VALUE;
+        int least = Integer.MAX_VALUE;
+        int[] before = new int[seats];
+        for (int p = 0; p < seats; p++) {
+            before[p] = x.one(p, 3);
+        }
+        for (int i = 0; i < n; i++) {
+            x.day(0);
+        }
+        for (int p = 0; p < seats; p++) {
+            greatest = Math.max(greatest, x.one(p, 3) - before[p]);
+            least = Math.min(least, x.one(p, 3) - before[p]);
+        }
+        x.back(1);
+        return greatest - least;
     }
 
     private static void fairWrong() {
